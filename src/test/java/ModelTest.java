@@ -12,7 +12,9 @@ import java.util.function.Supplier;
  */
 public final class ModelTest {
     private static final long SEED = 20261116L;
-    private static final int RUNS = 400;
+    private static final int RUNS = 4000;
+    // What an object answers behind these is free.
+    private static final int CALLS_OF_AN_OBJECT = 512;
     private static int wrong = 0;
 
     // ---- the model
@@ -624,54 +626,59 @@ public final class ModelTest {
         }
     }
 
-    static String seen(NeededLists x) {
-        StringBuilder b = new StringBuilder();
-        b.append(x.outcome()).append(' ').append(x.error()).append(' ').append(x.spent()).append(' ');
-        b.append(x.lists());
-        for (int a = 0; a < x.lists(); a++) {
-            b.append(' ').append(x.reached(a)).append(':');
-            for (int k = 0; k < x.reached(a); k++) {
-                b.append(x.worked(a, k) ? '1' : '0');
-            }
-        }
-        return b.toString();
+    /** One look at the state, without any ask: how far a list is, or an item of it. */
+    static Call randomLook(Random r, Model m) {
+        Call q = new Call();
+        q.i = r.nextInt(m.all.size());
+        int reached = m.all.get(q.i).reached();
+        q.name = r.nextInt(3) == 0 ? "reached" : "worked";
+        q.n = r.nextInt(reached + 2);
+        return q;
     }
 
-    static String due(Model m) {
-        StringBuilder b = new StringBuilder();
-        b.append(m.outcome).append(' ').append(m.error).append(' ').append(m.used).append(' ');
-        b.append(m.all.size());
-        for (Lazy a : m.all) {
-            b.append(' ').append(a.reached()).append(':');
-            for (int k = 0; k < a.reached(); k++) {
-                b.append(k < a.items.size() && a.items.get(k).done ? '1' : '0');
-            }
-        }
-        return b.toString();
+    static boolean isAsk(Call q) {
+        return "at size fold find last".contains(q.name);
+    }
+
+    static boolean sameLatest(NeededLists x, Model m) {
+        return x.outcome() == m.outcome && x.error() == m.error && x.spent() == m.used;
     }
 
     static void run(int number, Random r, Set<String> met) {
         NeededLists x = new NeededLists();
         Model m = new Model();
         List<Call> calls = new ArrayList<>();
-        int length = 1 + r.nextInt(512);
+        int made = 0;
         int share = 20 + r.nextInt(60);
-        for (int i = 0; i < length; i++) {
-            Call q = randomCall(r, m.all.size(), share);
+        int looks = 0;
+        // A round makes four calls at most, and lists() is asked behind them all.
+        while (made + 6 <= CALLS_OF_AN_OBJECT) {
+            boolean look = looks > 0 && !m.all.isEmpty();
+            Call q = look ? randomLook(r, m) : randomCall(r, m.all.size(), share);
+            looks = look ? looks - 1 : isAsk(q) ? r.nextInt(8) : 0;
             calls.add(q);
             String want = tellModel(m, q);
             String got = tellClass(x, q);
+            made++;
             met.add(q.name + " " + (want.startsWith("throws") ? want : "outcome " + m.outcome + " " + m.error));
-            if (!want.equals(got) || !due(m).equals(seen(x))) {
+            boolean same = want.equals(got);
+            if (same && !look) {
+                same = sameLatest(x, m);
+                made += 3;
+            }
+            if (!same) {
                 wrong++;
                 System.out.println("run " + number + ": " + q + " answered " + got + ", due is " + want);
-                System.out.println("  seen " + seen(x));
-                System.out.println("  due  " + due(m));
+                System.out.println("  outcome, error, spent due: " + m.outcome + ", " + m.error + ", " + m.used);
                 for (Call c : calls) {
                     System.out.println("    " + c);
                 }
                 return;
             }
+        }
+        if (x.lists() != m.all.size()) {
+            wrong++;
+            System.out.println("run " + number + ": lists() answered " + x.lists() + ", due is " + m.all.size());
         }
     }
 
